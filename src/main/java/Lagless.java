@@ -17,7 +17,7 @@ public final class Lagless {
     private static final int MOST_BOUND = 10;
     private static final int MOST_CHANGES = 10;
     private static final int MOST_PACKETS = 200;
-    private static final int MOST_NUMBER = 255;
+    private static final int NUMBERS = 256;
     private static final int MOST_INPUT = 15;
     private static final int RANDOM_MODULUS = 65537;
     private static final int COLUMNS = 12;
@@ -34,21 +34,22 @@ public final class Lagless {
     private final Program program = new Program();
     private final Changes changes = new Changes();
     private final Machine machine = new Machine(program, changes);
-    private final Peer[] peers = new Peer[PEERS];
+    // All peers that there can be, and those of them who play: none ahead of the first game.
+    private final Peer[] seats = new Peer[PEERS];
+    private Peer[] peers = new Peer[0];
     private final ArrayList<Packet> packets = new ArrayList<Packet>();
     // Rows for playing again, made once, so that no call needs new ones.
     private final int[] replayed = new int[STATE];
     private final int[] forked = new int[STATE];
     private final int[] inputs = new int[PEERS];
-    private int playing;
     private int delay;
     private int bound;
     private int seed;
 
     /** Makes a machine without instructions, which nobody plays. */
     public Lagless() {
-        for (int n = 0; n < PEERS; n++) {
-            peers[n] = new Peer(n);
+        for (int n = 0; n < seats.length; n++) {
+            seats[n] = new Peer(n);
         }
     }
 
@@ -63,7 +64,7 @@ public final class Lagless {
         if (!Program.accepts(op, a, b)) {
             throw new IllegalArgumentException("no such instruction");
         }
-        if (playing > 0 || program.size(bank) >= PLACES) {
+        if (peers.length > 0 || program.size(bank) >= PLACES) {
             throw new IllegalStateException("the bank is full, or the game has begun");
         }
         program.append(bank, op, a, b);
@@ -77,15 +78,15 @@ public final class Lagless {
         if (!fits) {
             throw new IllegalArgumentException("a number is out of range");
         }
-        this.playing = peers;
         this.delay = delay;
         this.bound = bound;
         this.seed = seed;
         changes.clear();
         packets.clear();
-        Arrays.fill(inputs, 0);
-        for (int n = 0; n < PEERS; n++) {
-            this.peers[n].clear(delay, seed);
+        this.peers = new Peer[peers];
+        for (int n = 0; n < this.peers.length && n < seats.length; n++) {
+            seats[n].clear(delay, seed);
+            this.peers[n] = seats[n];
         }
         return program.total();
     }
@@ -187,8 +188,8 @@ public final class Lagless {
     public int guesses(int peer) throws IndexOutOfBoundsException {
         Peer guesser = peerOf(peer);
         int guessed = 0;
-        for (int n = 0; n < playing; n++) {
-            guessed += Math.max(0, guesser.frame - knownOf(guesser, peers[n]));
+        for (Peer other : peers) {
+            guessed += Math.max(0, guesser.frame - knownOf(guesser, other));
         }
         return guessed;
     }
@@ -280,10 +281,10 @@ public final class Lagless {
     /** Agrees on a change of a cell at a frame, and returns how many changes are agreed. */
     public int agree(int frame, int cell, int number)
             throws IllegalArgumentException, UnsupportedOperationException, IllegalStateException {
-        if (!within(frame, FRAMES - 1) || !within(cell, CELLS - 1) || !within(number, MOST_NUMBER)) {
+        if (!within(frame, FRAMES - 1) || !within(cell, CELLS - 1) || !within(number, NUMBERS - 1)) {
             throw new IllegalArgumentException("a number is out of range");
         }
-        if (playing == 0 || furthestFrame() > frame) {
+        if (peers.length == 0 || furthestFrame() > frame) {
             throw new UnsupportedOperationException("the frame was run, or the game has not begun");
         }
         if (changes.count() >= MOST_CHANGES) {
@@ -297,7 +298,7 @@ public final class Lagless {
     public int poke(int peer, int cell, int number)
             throws IndexOutOfBoundsException, IllegalArgumentException {
         Peer poked = peerOf(peer);
-        if (!within(cell, CELLS - 1) || !within(number, MOST_NUMBER)) {
+        if (!within(cell, CELLS - 1) || !within(number, NUMBERS - 1)) {
             throw new IllegalArgumentException("a number is out of range");
         }
         int before = at(poked.present(), cell);
@@ -314,16 +315,16 @@ public final class Lagless {
             throw new UnsupportedOperationException("it is the last one");
         }
         int most = 0;
-        for (int n = 0; n < playing; n++) {
-            if (n != peer) {
-                most = Math.max(most, at(peers[n].heard, peer));
+        for (Peer other : peers) {
+            if (other != leaver) {
+                most = Math.max(most, at(other.heard, peer));
             }
         }
         leaver.left = true;
         leaver.lastKnown = most;
-        for (int n = 0; n < playing; n++) {
-            if (n != peer) {
-                goBack(peers[n]);
+        for (Peer other : peers) {
+            if (other != leaver) {
+                goBack(other);
             }
         }
         return countStaying();
@@ -370,7 +371,7 @@ public final class Lagless {
 
     /** Returns the sum of one machine that got all inputs in time, behind some frames. */
     public long wholly(int frames) throws NoSuchElementException {
-        if (playing == 0 || !within(frames, Math.min(FRAMES, toldByAll()))) {
+        if (peers.length == 0 || !within(frames, Math.min(FRAMES, toldByAll()))) {
             throw new NoSuchElementException("not all inputs of these frames are told");
         }
         Machine.reset(replayed, seed);
@@ -384,9 +385,9 @@ public final class Lagless {
     public float againShare() throws ArithmeticException {
         int runs = 0;
         int frames = 0;
-        for (int n = 0; n < playing; n++) {
-            runs += peers[n].runs;
-            frames += peers[n].frame;
+        for (Peer peer : peers) {
+            runs += peer.runs;
+            frames += peer.frame;
         }
         if (runs == 0) {
             throw new ArithmeticException("none was run");
@@ -405,8 +406,7 @@ public final class Lagless {
 
     /** Checks the game. */
     public boolean isSound() {
-        for (int n = 0; n < playing; n++) {
-            Peer peer = peers[n];
+        for (Peer peer : peers) {
             boolean sound = peer.left || peer.frame - sureOf(peer) <= bound
                     && knowsWhatWasTold(peer) && peer.sounds.allPlayed();
             if (!sound) {
@@ -423,7 +423,7 @@ public final class Lagless {
     }
 
     private Peer peerOf(int number) {
-        if (number < 0 || number >= playing || number >= peers.length) {
+        if (number < 0 || number >= peers.length) {
             throw new IndexOutOfBoundsException("no such peer");
         }
         return peers[number];
@@ -487,8 +487,8 @@ public final class Lagless {
 
     private int sureOf(Peer peer) {
         int frames = peer.frame;
-        for (int n = 0; n < playing; n++) {
-            frames = Math.min(frames, knownOf(peer, peers[n]));
+        for (Peer other : peers) {
+            frames = Math.min(frames, knownOf(peer, other));
         }
         return frames;
     }
@@ -507,9 +507,9 @@ public final class Lagless {
 
     private int toldByAll() {
         int frames = FRAMES;
-        for (int n = 0; n < playing; n++) {
-            if (!peers[n].left) {
-                frames = Math.min(frames, peers[n].toldFrames(delay));
+        for (Peer peer : peers) {
+            if (!peer.left) {
+                frames = Math.min(frames, peer.toldFrames(delay));
             }
         }
         return frames;
@@ -517,8 +517,8 @@ public final class Lagless {
 
     private int countStaying() {
         int staying = 0;
-        for (int n = 0; n < playing; n++) {
-            if (!peers[n].left) {
+        for (Peer peer : peers) {
+            if (!peer.left) {
                 staying++;
             }
         }
@@ -527,8 +527,8 @@ public final class Lagless {
 
     private int furthestFrame() {
         int furthest = 0;
-        for (int n = 0; n < playing; n++) {
-            furthest = Math.max(furthest, peers[n].frame);
+        for (Peer peer : peers) {
+            furthest = Math.max(furthest, peer.frame);
         }
         return furthest;
     }
@@ -538,8 +538,8 @@ public final class Lagless {
     private void runFrame(Peer peer, int frame) {
         int[] taken = peer.inputsOf(frame);
         Arrays.fill(taken, 0);
-        for (int n = 0; n < playing; n++) {
-            put(taken, n, takenInput(peer, peers[n], frame));
+        for (Peer other : peers) {
+            put(taken, other.number, takenInput(peer, other, frame));
         }
         int[] state = peer.stateBehind(frame + 1);
         copy(peer.stateBehind(frame), state);
@@ -563,8 +563,8 @@ public final class Lagless {
     /** Returns the first frame run with another input than a peer would take now, or its present frame. */
     private int firstOtherFrame(Peer peer) {
         for (int frame = 0; frame < peer.frame; frame++) {
-            for (int n = 0; n < playing; n++) {
-                if (at(peer.inputsOf(frame), n) != takenInput(peer, peers[n], frame)) {
+            for (Peer other : peers) {
+                if (at(peer.inputsOf(frame), other.number) != takenInput(peer, other, frame)) {
                     return frame;
                 }
             }
@@ -597,24 +597,21 @@ public final class Lagless {
     // ---- one machine that got all inputs in time
 
     private void runWholly(int frame) {
-        for (int n = 0; n < playing; n++) {
-            put(inputs, n, peers[n].settledInput(frame));
-        }
-        for (int n = playing; n < PEERS; n++) {
-            put(inputs, n, 0);
+        Arrays.fill(inputs, 0);
+        for (Peer peer : peers) {
+            put(inputs, peer.number, peer.settledInput(frame));
         }
         machine.runFrame(replayed, frame, inputs, null);
     }
 
     private boolean knowsWhatWasTold(Peer peer) {
-        for (int n = 0; n < playing; n++) {
-            Peer other = peers[n];
+        for (Peer other : peers) {
             int known = knownOf(peer, other);
             if (!other.left && known > other.toldFrames(delay)) {
                 return false;
             }
             for (int frame = 0; frame < Math.min(known, peer.frame); frame++) {
-                if (at(peer.inputsOf(frame), n) != other.settledInput(frame)) {
+                if (at(peer.inputsOf(frame), other.number) != other.settledInput(frame)) {
                     return false;
                 }
             }
@@ -636,8 +633,7 @@ public final class Lagless {
 
     /** Returns whether a sum is that of all who have as many frames sure and were not poked. */
     private boolean isSumOfAll(long sum, int frames) {
-        for (int n = 0; n < playing; n++) {
-            Peer peer = peers[n];
+        for (Peer peer : peers) {
             boolean bare = !peer.left && !peer.poked && frames <= sureOf(peer);
             if (bare && sumOf(peer.stateBehind(frames)) != sum) {
                 return false;
@@ -656,7 +652,7 @@ public final class Lagless {
         static boolean accepts(char op, int a, int b) {
             switch (op) {
                 case '=':
-                    return isCell(a) && within(b, MOST_NUMBER);
+                    return isCell(a) && within(b, NUMBERS - 1);
                 case ':':
                 case '+':
                 case '-':
@@ -669,7 +665,7 @@ public final class Lagless {
                 case 'i':
                     return isCell(a) && within(b, PEERS - 1);
                 case 'r':
-                    return isCell(a) && b >= 1 && within(b, MOST_NUMBER + 1);
+                    return isCell(a) && b >= 1 && within(b, NUMBERS);
                 case 'j':
                     return within(a, PLACES - 1);
                 case 'z':
@@ -792,51 +788,48 @@ public final class Lagless {
             int op = program.op(index);
             int a = program.first(index);
             int b = program.second(index);
+            if (isFault(state, op, a, b)) {
+                put(state, FAULTS, at(state, FAULTS) + 1);
+                return false;
+            }
             switch (op) {
-                case '=':
-                    put(state, a, b);
-                    return true;
-                case 'i':
-                    put(state, a, at(inputs, b));
-                    return true;
-                case 'r':
-                    return draw(state, a, b);
-                case '/':
-                    return divide(state, a, b);
-                case '[':
-                    return fetch(state, a, at(state, b));
-                case ']':
-                    return store(state, at(state, a), b);
-                case 's':
-                    if (sounds != null) {
-                        sounds.start(at(state, a));
-                    }
-                    return true;
+                case 'w':
+                    return false;
                 case 'j':
                 case 'z':
                 case 'b':
                     jump(state, op, a, b);
                     return true;
-                case 'w':
-                    return false;
+                case 's':
+                    if (sounds != null) {
+                        sounds.start(at(state, a));
+                    }
+                    return true;
+                case 'i':
+                    put(state, a, at(inputs, b));
+                    return true;
+                case 'r':
+                    put(state, a, draw(state, b));
+                    return true;
+                case ']':
+                    put(state, at(state, a), at(state, b));
+                    return true;
                 default:
-                    put(state, a, computed(op, at(state, a), at(state, b)));
+                    put(state, a, computed(state, op, a, b));
                     return true;
             }
         }
 
-        private static int computed(int op, int x, int y) {
+        private static boolean isFault(int[] state, int op, int a, int b) {
             switch (op) {
-                case ':':
-                    return y;
-                case '+':
-                    return (x + y) & MOST_NUMBER;
-                case '-':
-                    return (x - y) & MOST_NUMBER;
-                case '*':
-                    return (x * y) & MOST_NUMBER;
+                case '/':
+                    return at(state, b) == 0;
+                case '[':
+                    return at(state, b) >= CELLS;
+                case ']':
+                    return at(state, a) >= CELLS;
                 default:
-                    return x < y ? 1 : 0;
+                    return false;
             }
         }
 
@@ -851,44 +844,35 @@ public final class Lagless {
             }
         }
 
-        private static boolean draw(int[] state, int a, int modulus) {
+        /** Returns the next random number modulo another one. */
+        private static int draw(int[] state, int modulus) {
             int random = (at(state, RANDOM) * 75 + 74) % RANDOM_MODULUS;
             put(state, RANDOM, random);
-            if (modulus > 0) {
-                put(state, a, random % modulus);
-            }
-            return true;
+            return modulus > 0 ? random % modulus : 0;
         }
 
-        private static boolean divide(int[] state, int a, int b) {
-            int divisor = at(state, b);
-            if (divisor == 0) {
-                return fault(state);
+        /** Returns what the cell a becomes by an instruction that only looks at cells. */
+        private static int computed(int[] state, int op, int a, int b) {
+            int x = at(state, a);
+            int y = at(state, b);
+            switch (op) {
+                case '=':
+                    return b;
+                case '+':
+                    return Math.floorMod(x + y, NUMBERS);
+                case '-':
+                    return Math.floorMod(x - y, NUMBERS);
+                case '*':
+                    return Math.floorMod(x * y, NUMBERS);
+                case '/':
+                    return y != 0 ? x / y : 0;
+                case '<':
+                    return x < y ? 1 : 0;
+                case '[':
+                    return at(state, y);
+                default:
+                    return y;
             }
-            put(state, a, at(state, a) / divisor);
-            return true;
-        }
-
-        private static boolean fetch(int[] state, int a, int cell) {
-            if (cell >= CELLS) {
-                return fault(state);
-            }
-            put(state, a, at(state, cell));
-            return true;
-        }
-
-        private static boolean store(int[] state, int cell, int b) {
-            if (cell >= CELLS) {
-                return fault(state);
-            }
-            put(state, cell, at(state, b));
-            return true;
-        }
-
-        /** Counts a fault, behind which no frame goes on. */
-        private static boolean fault(int[] state) {
-            put(state, FAULTS, at(state, FAULTS) + 1);
-            return false;
         }
     }
 
@@ -896,7 +880,7 @@ public final class Lagless {
     private static final class Sounds {
         // A frame has 256 numbers: a bit each, 64 in a word.
         private static final int WORDS = 4;
-        private static final int MOST = FRAMES * (MOST_NUMBER + 1);
+        private static final int MOST = FRAMES * NUMBERS;
 
         private final long[] begun = new long[FRAMES * WORDS];
         private final long[] heard = new long[FRAMES * WORDS];
@@ -933,8 +917,10 @@ public final class Lagless {
             if (count == order.length && count < MOST) {
                 order = Arrays.copyOf(order, Math.min(MOST, 2 * count));
             }
-            put(order, count, sound);
-            count++;
+            if (count < order.length) {
+                order[count] = sound;
+                count++;
+            }
         }
 
         int count() {
