@@ -239,7 +239,7 @@ public final class Lagless {
         refuseLeft(receiver);
         int fresh = Math.max(0, delivered.end - knownOf(receiver, sender));
         if (fresh > 0) {
-            put(receiver.heard, delivered.from, delivered.end);
+            put(receiver.knows, delivered.from, delivered.end);
         }
         // A late packet brings old word, which takes nothing back.
         put(receiver.word, delivered.from, Math.max(at(receiver.word, delivered.from), delivered.word));
@@ -317,7 +317,7 @@ public final class Lagless {
         int most = 0;
         for (Peer other : peers) {
             if (other != leaver) {
-                most = Math.max(most, at(other.heard, peer));
+                most = Math.max(most, at(other.knows, peer));
             }
         }
         leaver.left = true;
@@ -482,7 +482,7 @@ public final class Lagless {
         if (other.left) {
             return KNOWN_OF_LEFT;
         }
-        return peer == other ? other.toldFrames(delay) : at(peer.heard, other.number);
+        return peer == other ? other.toldFrames(delay) : at(peer.knows, other.number);
     }
 
     private int sureOf(Peer peer) {
@@ -502,7 +502,7 @@ public final class Lagless {
             return other.settledInput(frame);
         }
         // Without any known one, the index is -1 and the guess is 0.
-        return at(other.told, Math.min(frame, at(peer.heard, other.number) - 1));
+        return at(other.told, Math.min(frame, at(peer.knows, other.number) - 1));
     }
 
     private int toldByAll() {
@@ -958,7 +958,7 @@ public final class Lagless {
         final int[][] taken = new int[FRAMES][PEERS];
         final int[] told = new int[FRAMES + MOST_DELAY];
         // For each other one: how many inputs of it are known, and of how many of its own there is word.
-        final int[] heard = new int[PEERS];
+        final int[] knows = new int[PEERS];
         final int[] word = new int[PEERS];
         int frame;
         int pressed;
@@ -979,7 +979,7 @@ public final class Lagless {
             sounds.clear();
             Machine.reset(stateBehind(0), seed);
             Arrays.fill(told, 0);
-            Arrays.fill(heard, delay);
+            Arrays.fill(knows, delay);
             Arrays.fill(word, delay);
             frame = 0;
             pressed = 0;

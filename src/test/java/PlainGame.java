@@ -393,6 +393,10 @@ final class PlainGame {
         return packets.size() - 1;
     }
 
+    boolean hasPacket(int number) {
+        return number < packets.size();
+    }
+
     int deliver(int number) {
         refuse(out(number, 0, packets.size() - 1), IndexOutOfBoundsException::new);
         Packet packet = packets.get(number);

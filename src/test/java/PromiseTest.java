@@ -31,6 +31,7 @@ public final class PromiseTest {
         sums();
         goingBackWithSounds();
         sounds();
+        lateSounds();
         send();
         deliver();
         apartAndDiffers();
@@ -40,6 +41,7 @@ public final class PromiseTest {
         leaveTwice();
         againAndFork();
         wholly();
+        absentPeers();
         shares();
         isSound();
         if (wrong > 0) {
@@ -380,8 +382,12 @@ public final class PromiseTest {
         y.begin(2, 4, 1, 0);
         y.leave(1);
         for (int n = 0; n < 120; n++) {
-            y.advance(0);
+            run(y, 0, n % 2);
         }
+        is("9: all inputs were used", y.cell(0, 2), 58);
+        y.poke(0, 9, 9);
+        is("11: behind none", y.sumBehind(0, 0), sum(cells(), 0, 0, 0, 0));
+        is("11: behind all", y.sumBehind(0, 120), sum(new int[] {1, 0, 58, 0, 0, 0, 0, 0, 0, 9}, 0, 0, 0, 0));
         is("6: at the end", y.frameOf(0), 120);
         is("8: ahead of the end", y.known(0, 0), 124);
         is("7: all are sure", y.sure(0), 120);
@@ -389,7 +395,9 @@ public final class PromiseTest {
         is("14: that is no stall", y.stalls(0), 0);
         fails("24: all were run", UNSUPPORTED, () -> y.agree(119, 0, 0));
         fails("29: greater than 120", NO_SUCH, () -> y.wholly(121));
-        is("29: all frames", y.wholly(120), y.sumBehind(0, 120));
+        is("29: all frames", y.wholly(120), sum(cells(1, 0, 58), 0, 0, 0, 0));
+        is("27: all frames", y.again(0), y.wholly(120));
+        is("28: the last frame", y.fork(0, 0, 119, 0), 120);
         Lagless z = machine(ADDING);
         z.begin(2, 0, 10, 0);
         for (int n = 0; n < 120; n++) {
@@ -530,6 +538,29 @@ public final class PromiseTest {
         fails("17: place 6", INDEX, () -> x.sound(0, 6));
         fails("17: place -1", INDEX, () -> x.sound(0, -1));
         fails("18: peer 2", INDEX, () -> x.cut(2));
+    }
+
+    /** Sounds up to the last frame, more than a short list of them holds. */
+    private static void lateSounds() {
+        Lagless x = machine(ADDING);
+        x.begin(2, 0, 10, 0);
+        for (int n = 0; n < 11; n++) {
+            run(x, 0, 0, 0, 0, 0, 0, 0, 0, 0, 0, 0);
+            run(x, 1, 0, 0, 0, 0, 0, 0, 0, 0, 0, 0);
+            pass(x, 0, 1);
+            pass(x, 1, 0);
+        }
+        run(x, 0, 0, 0, 0, 0, 0, 0, 0, 0, 0, 0);
+        is("16: one a frame", x.played(0), 120);
+        is("18: none is cut", x.cut(0), 0);
+        run(x, 1, 0, 5, 5, 5, 5, 5, 5, 5, 5, 5);
+        is("20: deliver", pass(x, 1, 0), 10);
+        is("16: nine more", x.played(0), 129);
+        is("17: in the last frame", x.sound(0, 128), 119005);
+        is("17: in the frame 64", x.sound(0, 64), 64000);
+        is("18: nine are cut", x.cut(0), 9);
+        is("31: nine frames", x.meanBack(0), 9.0);
+        is("32: sound", x.isSound(), true);
     }
 
     private static void send() {
@@ -853,6 +884,26 @@ public final class PromiseTest {
         is("29: one left", x.wholly(4), sum(cells(5, 0, 12, 0), 0, 0, 3, 0));
         fails("29: not told by the other one", NO_SUCH, () -> x.wholly(5));
         is("32: sound", x.isSound(), true);
+    }
+
+    /** Inputs of a third peer must not stay behind in the next game, which has two. */
+    private static void absentPeers() {
+        Lagless x = machine("i 0 2", "+ 1 0");
+        x.begin(3, 0, 9, 0);
+        run(x, 2, 7, 7);
+        pass(x, 2, 0);
+        run(x, 1, 0, 0);
+        pass(x, 1, 0);
+        run(x, 0, 0, 0);
+        is("9: the third one's", x.cell(0, 1), 14);
+        is("28: the third one's", x.fork(0, 2, 1, 9), 2);
+        x.begin(2, 0, 9, 0);
+        run(x, 0, 1, 1);
+        run(x, 1, 1, 1);
+        is("9: of none", x.cell(0, 1), 0);
+        is("29: of none", x.wholly(2), sum(cells(), 0, 0, 0, 0));
+        pass(x, 1, 0);
+        is("27: of none", x.again(0), sum(cells(), 0, 0, 0, 0));
     }
 
     private static void shares() {

@@ -14,10 +14,13 @@ public final class RandomRunsTest {
     private int peers;
     private int packets;
     private boolean wrong;
+    // In a steady run the peers go on side by side, so that they come to the last frame.
+    private final boolean steady;
 
     private RandomRunsTest(int seed) {
         random = new Random(seed);
-        calls = 60 + random.nextInt(seed % 10 == 0 ? 450 : 200);
+        steady = seed % 10 == 0;
+        calls = steady ? 600 : 60 + random.nextInt(200);
     }
 
     public static void main(String[] args) {
@@ -69,6 +72,9 @@ public final class RandomRunsTest {
 
     private void play() {
         queryAll();
+        if (random.nextInt(3) == 0) {
+            hearInputs();
+        }
         int instructions = random.nextInt(40);
         for (int n = 0; n < instructions; n++) {
             addInstruction();
@@ -77,10 +83,21 @@ public final class RandomRunsTest {
         for (int n = instructions; n < calls && !wrong; n++) {
             if (random.nextInt(400) == 0) {
                 begin();
+            } else if (steady && random.nextInt(20) > 0) {
+                n += goOn();
             } else {
                 changeSomething();
             }
             queryAll();
+        }
+    }
+
+    /** Lets the machine begin with sounds that tell its inputs, so that much is cut. */
+    private void hearInputs() {
+        for (int peer = 0; peer < 3; peer++) {
+            addInstruction(0, 'i', peer, peer);
+            addInstruction(0, 's', peer, 0);
+            addInstruction(0, '+', 4, peer);
         }
     }
 
@@ -89,6 +106,10 @@ public final class RandomRunsTest {
         char op = random.nextInt(80) == 0 ? '?' : OPS.charAt(random.nextInt(OPS.length()));
         int a = operand("jb".indexOf(op), 2, 20);
         int b = operand("=irz".indexOf(op), 20, 256);
+        addInstruction(bank, op, a, b);
+    }
+
+    private void addInstruction(int bank, char op, int a, int b) {
         act("addInstruction(" + bank + ", '" + op + "', " + a + ", " + b + ")",
                 () -> real.addInstruction(bank, op, a, b), () -> plain.addInstruction(bank, op, a, b));
     }
@@ -112,6 +133,27 @@ public final class RandomRunsTest {
                 && bound >= 1 && bound <= 10 && seed >= 0 && seed <= 65536;
         peers = begun ? count : peers;
         packets = begun ? 0 : packets;
+    }
+
+    /** Lets all peers advance and seldom exchange packets; returns how many more calls than one that took. */
+    private int goOn() {
+        for (int peer = 0; peer < peers; peer++) {
+            int number = peer;
+            act("advance(" + peer + ")", () -> real.advance(number), () -> plain.advance(number));
+        }
+        if (random.nextInt(3) == 0) {
+            press();
+        }
+        if (random.nextInt(5) > 0) {
+            return peers;
+        }
+        for (int from = 0; from < peers; from++) {
+            for (int to = 0; to < peers; to++) {
+                send(from, to);
+                deliver(packets - 1);
+            }
+        }
+        return peers * peers * 2;
     }
 
     private void changeSomething() {
@@ -148,14 +190,20 @@ public final class RandomRunsTest {
 
     private void send() {
         int from = peer();
-        int to = random.nextInt(20) == 0 ? peer() : (from + 1 + random.nextInt(2)) % Math.max(1, peers);
+        send(from, random.nextInt(20) == 0 ? peer() : (from + 1 + random.nextInt(2)) % Math.max(1, peers));
+    }
+
+    private void send(int from, int to) {
         act("send(" + from + ", " + to + ")", () -> real.send(from, to), () -> plain.send(from, to));
-        packets++;
+        packets += plain.hasPacket(packets) ? 1 : 0;
     }
 
     private void deliver() {
-        int packet = random.nextInt(3) > 0
-                ? Math.max(0, packets - 1 - random.nextInt(4)) : number(0, Math.max(0, packets - 1));
+        deliver(random.nextInt(3) > 0
+                ? Math.max(0, packets - 1 - random.nextInt(4)) : number(0, Math.max(0, packets - 1)));
+    }
+
+    private void deliver(int packet) {
         act("deliver(" + packet + ")", () -> real.deliver(packet), () -> plain.deliver(packet));
     }
 
