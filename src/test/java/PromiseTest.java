@@ -1,19 +1,5 @@
-import java.util.NoSuchElementException;
-
 /** Holds each promise of the document, by its number, with answers that were worked out by hand. */
-public final class PromiseTest {
-    private static final Class<? extends RuntimeException> INDEX = IndexOutOfBoundsException.class;
-    private static final Class<? extends RuntimeException> ARGUMENT = IllegalArgumentException.class;
-    private static final Class<? extends RuntimeException> STATE = IllegalStateException.class;
-    private static final Class<? extends RuntimeException> UNSUPPORTED = UnsupportedOperationException.class;
-    private static final Class<? extends RuntimeException> NO_SUCH = NoSuchElementException.class;
-    private static final Class<? extends RuntimeException> ARITHMETIC = ArithmeticException.class;
-
-    /** Adds the inputs of the peers 0 and 1 up in the cells 2 and 3, and begins the sound of the latter. */
-    private static final String[] ADDING = {"i 0 0", "i 1 1", "+ 2 0", "+ 3 1", "s 1 0"};
-
-    private static int wrong;
-
+public final class PromiseTest extends Checks {
     private PromiseTest() {
     }
 
@@ -44,71 +30,7 @@ public final class PromiseTest {
         absentPeers();
         shares();
         isSound();
-        if (wrong > 0) {
-            System.out.println(wrong + " answers are not as promised");
-            System.exit(1);
-        }
-        System.out.println("all promises are kept");
-    }
-
-    // ---- means
-
-    private static void is(String what, Object got, Object due) {
-        if (!got.equals(due)) {
-            wrong++;
-            System.out.println(what + ": " + got + ", due is " + due);
-        }
-    }
-
-    private static void fails(String what, Class<? extends RuntimeException> due, Runnable call) {
-        String got = "nothing";
-        try {
-            call.run();
-        } catch (RuntimeException e) {
-            got = e.getClass().getSimpleName();
-        }
-        is(what + " throws", got, due.getSimpleName());
-    }
-
-    private static Lagless machine(String... bank) {
-        Lagless x = new Lagless();
-        program(x, 0, bank);
-        return x;
-    }
-
-    /** Adds instructions that are written as "op a b". */
-    private static void program(Lagless x, int bank, String... instructions) {
-        for (String instruction : instructions) {
-            String[] parts = instruction.split(" ");
-            x.addInstruction(bank, parts[0].charAt(0), Integer.parseInt(parts[1]), Integer.parseInt(parts[2]));
-        }
-    }
-
-    private static void run(Lagless x, int peer, int... inputs) {
-        for (int input : inputs) {
-            x.press(peer, input);
-            is("advance(" + peer + ")", x.advance(peer), true);
-        }
-    }
-
-    private static int pass(Lagless x, int from, int to) {
-        return x.deliver(x.send(from, to));
-    }
-
-    /** Returns the sum of a state: some cells from 0 on, the bank, the place, the random number, the faults. */
-    private static long sum(int[] cells, int bank, int place, int random, int faults) {
-        long sum = 17;
-        for (int n = 0; n < 16; n++) {
-            sum = 31 * sum + (n < cells.length ? cells[n] : 0);
-        }
-        sum = 31 * sum + bank;
-        sum = 31 * sum + place;
-        sum = 31 * sum + random;
-        return 31 * sum + faults;
-    }
-
-    private static int[] cells(int... cells) {
-        return cells;
+        end("all promises are kept");
     }
 
     // ---- promises
@@ -129,48 +51,7 @@ public final class PromiseTest {
         is("1: behind it", x.sumBehind(0, 1), sum(cells(), 0, 0, 7, 0));
     }
 
-    private static void accepts(char op, int a, int b) {
-        Lagless x = new Lagless();
-        is("2: '" + op + "' " + a + " " + b, x.addInstruction(1, op, a, b), 1);
-    }
-
-    private static void refuses(char op, int a, int b) {
-        Lagless x = new Lagless();
-        fails("2: '" + op + "' " + a + " " + b, ARGUMENT, () -> x.addInstruction(1, op, a, b));
-        is("2: nothing was added", x.begin(1, 0, 1, 0), 0);
-    }
-
-    private static void bounds(char op, int mostA, int leastB, int mostB) {
-        accepts(op, 0, leastB);
-        accepts(op, mostA, mostB);
-        refuses(op, -1, leastB);
-        refuses(op, mostA + 1, leastB);
-        refuses(op, 0, leastB - 1);
-        refuses(op, 0, mostB + 1);
-    }
-
-    private static void boundsOfFirst(char op, int most) {
-        accepts(op, 0, -1000);
-        accepts(op, most, 1000);
-        refuses(op, -1, 0);
-        refuses(op, most + 1, 0);
-    }
-
     private static void addInstruction() {
-        for (char op : ":+-*/<[]".toCharArray()) {
-            bounds(op, 15, 0, 15);
-        }
-        bounds('=', 15, 0, 255);
-        bounds('i', 15, 0, 2);
-        bounds('r', 15, 1, 256);
-        bounds('z', 15, 0, 19);
-        boundsOfFirst('j', 19);
-        boundsOfFirst('b', 2);
-        boundsOfFirst('s', 15);
-        accepts('w', Integer.MIN_VALUE, Integer.MAX_VALUE);
-        refuses('?', 0, 0);
-        refuses('\0', 0, 0);
-        refuses('W', 0, 0);
         Lagless x = new Lagless();
         for (int n = 1; n <= 20; n++) {
             is("2: instructions of the bank 2", x.addInstruction(2, 'w', 0, 0), n);
