@@ -650,6 +650,19 @@ final class PeerEdges extends Checks {
             is("not the other one", x.played(1), 0);
         });
         document.hold(16, "Returns the number of sounds.", () -> {
+            String[] pairs = new String[18];
+            for (int n = 0; n < 18; n++) {
+                pairs[n] = n % 2 == 0 ? "s 0 0" : "+ 0 1";
+            }
+            Lagless many = begun(1, 0, 1, pairs);
+            many.poke(0, 1, 1);
+            for (int n = 0; n < 120; n++) {
+                many.advance(0);
+            }
+            is("nine in each frame", many.played(0), 9 * 120);
+            for (int n = 0; n < 9 * 120; n++) {
+                is("place " + n, many.sound(0, n), 1000 * (n / 9) + n % 256);
+            }
             Lagless x = begun(2, 0, 10, "i 1 1", "s 1 0");
             run(x, 0, 0, 0);
             run(x, 1, 3);
